@@ -90,12 +90,14 @@ public final class RisingPage {
         final Track begin;
         final Track end;
         final Track aim;
+        final boolean leaf;
         int size;
 
-        Plane(Track begin, Track end, Track aim) {
+        Plane(Track begin, Track end, Track aim, boolean leaf) {
             this.begin = begin;
             this.end = end;
             this.aim = aim;
+            this.leaf = leaf;
         }
 
         boolean isStuck(int step) {
@@ -107,7 +109,7 @@ public final class RisingPage {
                 into.lose(step);
                 return;
             }
-            int whole = aim == end ? size : WAY_LENGTH;
+            int whole = leaf ? WAY_LENGTH : size;
             int beginX = begin.x[step];
             int beginY = begin.y[step];
             long reachX = aim.x[step] - beginX;
@@ -141,8 +143,8 @@ public final class RisingPage {
         final Track hingeA = new Track();
         final Track hingeB = new Track();
         final Track crease = new Track();
-        final Plane flatA = new Plane(hingeA, crease, crease);
-        final Plane flatB = new Plane(hingeB, crease, crease);
+        final Plane flatA = new Plane(hingeA, crease, crease, false);
+        final Plane flatB = new Plane(hingeB, crease, crease, false);
         int kind;
         int p;
         int a;
@@ -266,8 +268,8 @@ public final class RisingPage {
             lyingWay.put(step, WAY_LENGTH, 0);
             openingWay.put(step, WAY_X[step], WAY_Y[step]);
         }
-        planes[0] = new Plane(spine, new Track(), lyingWay);
-        planes[1] = new Plane(spine, new Track(), openingWay);
+        planes[0] = new Plane(spine, new Track(), lyingWay, true);
+        planes[1] = new Plane(spine, new Track(), openingWay, true);
         pageTolerance = FIRST_TOLERANCE;
         cutLeaves(FIRST_WIDTH);
     }
@@ -648,7 +650,8 @@ public final class RisingPage {
 
     /** Gives the trial, a strap, the second flat that lets its hinges be as far apart as they are when flat. */
     private int stretchTrial() {
-        settle(trial, FLAT);
+        markOn(trial.p, trial.a, FLAT, trial.hingeA);
+        markOn(trial.q, trial.b, FLAT, trial.hingeB);
         if (trial.hingeA.stuck[FLAT] || trial.hingeB.stuck[FLAT]) {
             return STATE;
         }
@@ -697,15 +700,18 @@ public final class RisingPage {
     }
 
     private void settle(Part part, int step) {
-        Plane onto = planeThere(part.p);
-        Plane other = planeThere(part.q);
-        if (onto == null || other == null) {
-            part.crease.lose(step);
-            return;
-        }
-        onto.mark(part.a, step, part.hingeA);
-        other.mark(part.b, step, part.hingeB);
+        markOn(part.p, part.a, step, part.hingeA);
+        markOn(part.q, part.b, step, part.hingeB);
         part.fold(step);
+    }
+
+    private void markOn(int plane, int distance, int step, Track into) {
+        Plane found = planeThere(plane);
+        if (found == null) {
+            into.lose(step);
+        } else {
+            found.mark(distance, step, into);
+        }
     }
 
     private int creasesOutside(int step) {

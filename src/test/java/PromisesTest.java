@@ -156,6 +156,10 @@ public final class PromisesTest {
     due(x.count(1), 30);
     due(x.count(2), 29);
     due(x.place(59, 5, 8, 0) < STUCK, true);
+    x = new RisingPage();
+    for (int i = 0; i < 30; i++) due(x.part(0, 0, 0, 1, 200, 1, 2, true), i);
+    due(x.part(2, 2, 1, 0, 1, 1, 1, true), -6);
+    due(x.count(13), 0);
   }
 
   private static void free() {
@@ -287,6 +291,21 @@ public final class PromisesTest {
     due(x.count(16), 1);
   }
 
+  private static void placeOnAllWays() {
+    int[] ways = {10000, 9808, 9239, 8315, 7071, 5556, 3827, 1951, 0};
+    for (int step = 0; step <= 16; step++) {
+      int wayX = step <= 8 ? ways[step] : -ways[16 - step];
+      int wayY = ways[Math.abs(8 - step)];
+      RisingPage x = page(1000);
+      for (int n = 0; n <= 1000; n++) {
+        // An object answers for 512 calls.
+        if (n % 250 == 0) x = page(1000);
+        due(x.place(1, n, step, 0), Math.floorDiv(2 * wayX * n + 10000, 20000));
+        due(x.place(1, n, step, 1), Math.floorDiv(2 * wayY * n + 10000, 20000));
+      }
+    }
+  }
+
   private static void placeOnFlats() {
     RisingPage x = withBend(0, 3, 2, 2, true);
     due(x.place(2, 0, 8, 1), 0);
@@ -377,7 +396,20 @@ public final class PromisesTest {
     due(x.meet(3, 4, 8), 0);
     due(x.free(0), 1);
     due(x.meet(0, 3, 8), -1);
-    due(withBend(100, 20, 50, 78, false).meet(0, 3, 8), 0);
+    x = withBend(100, 20, 50, 78, false);
+    due(x.meet(0, 3, 8), 0);
+    due(x.meet(0, 2, 8), 0);
+    due(x.meet(2, 0, 8), 0);
+    x = withBend(100, 20, 50, 78, true);
+    due(x.meet(0, 3, 8), 1);
+    due(x.hinge(0, true, 200), 100);
+    due(x.meet(0, 3, 8), 0);
+    due(x.meet(3, 0, 8), 0);
+    x = page(10);
+    x.part(0, 0, 10, 1, 10, 21, 33, false);
+    due(x.crease(0, 8, 1) < 0, true);
+    due(x.meet(0, 3, 8), 0);
+    due(x.meet(3, 0, 8), 0);
     due(withBend(10, 40, 20, 50, false).meet(0, 3, 8), 0);
   }
 
@@ -597,7 +629,7 @@ public final class PromisesTest {
     promise = 5; free();
     promise = 6; hinge(); hingeCarriesOthers();
     promise = 7; crease(); creaseEdges();
-    promise = 8; place(); placeOnFlats();
+    promise = 8; place(); placeOnAllWays(); placeOnFlats();
     promise = 9; miss();
     promise = 10; stuck();
     promise = 11; out();
