@@ -1,4 +1,4 @@
-/** Each promise of the document by itself: ordinary inputs, the edges that it names, wrong inputs. The answers are worked out by hand. */
+/** Each promise of the document by itself: ordinary inputs, the edges that it names, wrong inputs. The answers are worked out by hand, or by other calls whose answers are; a few are those of the given runs. */
 public final class PromisesTest {
   private static final int STUCK = 1000000000;
   private static final int LEAST = Integer.MIN_VALUE;
@@ -326,7 +326,7 @@ public final class PromisesTest {
   private static void miss() {
     RisingPage x = withBend(0, 3, 2, 2, true);
     due(x.miss(0, 8), 2);
-    due(x.miss(0, 0), x.crease(0, 0, 0) == STUCK ? 0 : 2);
+    due(x.miss(0, 0), 2);
     due(x.miss(0, 17), -1);
     due(x.miss(0, -1), -1);
     due(x.miss(1, 0), -1);
