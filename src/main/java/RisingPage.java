@@ -410,8 +410,9 @@ public final class RisingPage {
         if (what < 0 || what > 2) {
             return refuse(OTHER);
         }
+        int bound = planesEver();
         for (int step = 0; step < STEPS; step++) {
-            for (int lesser = 0; lesser < MOST_PLANES; lesser++) {
+            for (int lesser = 0; lesser < bound; lesser++) {
                 int greater = firstRunInto(lesser, step);
                 if (greater != NONE) {
                     return what == 0 ? step : what == 1 ? lesser : greater;
@@ -520,10 +521,10 @@ public final class RisingPage {
         return (int) Math.floorDiv(2 * dividend + divisor, 2 * divisor);
     }
 
-    /** The square root, rounded down; 31 bits are plenty for squares of distances on a page. */
+    /** The square root, rounded down. The greatest that a page asks for is 2 c d, so at most 2000000: 21 bits. */
     private static long rootBelow(long value) {
         long root = 0;
-        for (int bit = 30; bit >= 0; bit--) {
+        for (int bit = 20; bit >= 0; bit--) {
             long tried = root + (1L << bit);
             if (tried * tried <= value) {
                 root = tried;
@@ -566,6 +567,10 @@ public final class RisingPage {
 
     private Plane planeThere(int number) {
         return number >= 0 && number < MOST_PLANES ? planes[number] : null;
+    }
+
+    private int planesEver() {
+        return LEAVES + 2 * made;
     }
 
     private int sizeOf(int plane) {
@@ -751,7 +756,8 @@ public final class RisingPage {
         if (one == null) {
             return NONE;
         }
-        for (int greater = lesser + 1; greater < MOST_PLANES; greater++) {
+        int bound = planesEver();
+        for (int greater = lesser + 1; greater < bound; greater++) {
             Plane two = planeThere(greater);
             if (two != null && one.runsInto(two, step)) {
                 return greater;

@@ -74,6 +74,18 @@ public final class PromiseBoundsTest extends Checks {
     refusedEach(FULL, -1, "free(30)", "hinge(30, true, 1)", "crease(30, 0, 0)", "miss(30, 0)", "stuck(30)", "move(30, 0)",
       "find(30, true, 0, 0, 0, 0)", "partOf(30, 0)", "place(62, 0, 0, 0)", "meet(61, 62, 0)", "meet(62, 61, 0)");
     taken(FULL, "even(30)", 0);
+    // 29 that are stuck at every step, and a last one whose second flat goes from 0, 8 to 5, -1 at step 8, and is stuck at others.
+    String[] last = new String[30];
+    for (int n = 0; n < 29; n++) last[n] = "part(0, 0, 0, 1, 200, 1, 2, true)";
+    last[29] = "part(0, 0, 6, 1, 8, 1, 10, true)";
+    taken(last, "meets(0)", 8);
+    taken(last, "meets(1)", 0);
+    taken(last, "meets(2)", 61);
+    taken(last, "tall(8)", -1);
+    taken(last, "count(4)", 30);
+    taken(last, "count(3)", 1);
+    taken(last, "out(0)", 0);
+    taken(last, "greatest()", 0);
     // The first and the last part, each on the one before it: the last is stuck with the first.
     String[] chain = new String[30];
     for (int n = 0; n < 30; n++) chain[n] = "part(0, " + 2 * n + ", 9, " + (2 * n + 1) + ", 9, 20, 20, true)";
@@ -323,6 +335,11 @@ public final class PromiseBoundsTest extends Checks {
     taken(shut, "meets(0)", 0);
     taken(shut, "meets(1)", 3);
     taken(shut, "meets(2)", 4);
+    // A leaf, and the flat from 0, 8 to 5, -1.
+    String[] leaf = scene("part(0, 0, 6, 1, 8, 1, 10, true)");
+    taken(leaf, "meets(0)", 8);
+    taken(leaf, "meets(1)", 0);
+    taken(leaf, "meets(2)", 3);
     meetsByStep();
   }
 

@@ -74,6 +74,26 @@ public final class TermsBoundsTest extends Checks {
     for (int step = 0; step <= 16; step++) placeIs(x, 1, 1000, step, waysX[step], waysY[step]);
   }
 
+  private static void endsOfLeaves() {
+    sentence("A PLANE has a BEGIN and an END: of the leaves the SPINE, and the place WIDTH along");
+    // Shut, with flats from above the page to below it: from 251, 100 to 251, -50, and from 51, 100 to 150, -50 through 117, 0.
+    String[] far = {bend(250, 252, 100, 100, true), "part(0, 2, 100, 0, 0, 150, 256, true)"};
+    String[] near = {bend(50, 52, 100, 100, true), "part(0, 2, 100, 0, 100, 180, 71, true)"};
+    for (int leaf = 0; leaf <= 1; leaf++) {
+      String call = "meet(" + leaf + ", 4, 0)";
+      due(page(with(scene("width(252)"), far)), call, 1);
+      due(page(with(scene("width(1000)"), far)), call, 1);
+      due(page(near), call, 1);
+      due(page(with(scene("width(118)"), near)), call, 1);
+      due(page(with(scene("width(117)"), near)), call, 0);
+      due(page(with(scene("width(100)"), near)), call, 0);
+    }
+    TextPage x = page(near);
+    due(x, "meets(0)", 0);
+    due(x, "meets(1)", 0);
+    due(x, "meets(2)", 4);
+  }
+
   private static void sizeOfLeaves() {
     sentence("its SIZE is WIDTH");
     for (int width : new int[] {1, 200, 1000}) {
@@ -214,6 +234,15 @@ public final class TermsBoundsTest extends Checks {
     sentence("SIDE: true: X is to the left of the way from A to B, false: to the right.");
     creaseIs(page(bend(10, 40, 20, 50, true)), 0, 8, -8, -9);
     creaseIs(page(bend(10, 40, 20, 50, false)), 0, 8, 30, 0);
+    // From the opening leaf to the lying one the same sides are the other way round.
+    creaseIs(page("part(0, 1, 40, 0, 10, 50, 20, true)"), 0, 8, 30, 0);
+    creaseIs(page("part(0, 1, 40, 0, 10, 50, 20, false)"), 0, 8, -8, -9);
+    // From 119, 119 to 0, 40 and back.
+    String[] raised = {bend(100, 100, 120, 120, false)};
+    creaseIs(page(with(raised, "part(0, 2, 120, 1, 40, 100, 90, true)")), 1, 8, 89, 24);
+    creaseIs(page(with(raised, "part(0, 2, 120, 1, 40, 100, 90, false)")), 1, 8, 19, 128);
+    creaseIs(page(with(raised, "part(0, 1, 40, 3, 120, 100, 90, true)")), 1, 8, 30, 135);
+    creaseIs(page(with(raised, "part(0, 1, 40, 3, 120, 100, 90, false)")), 1, 8, 100, 31);
     // On the way itself both sides are one.
     creaseIs(page(bend(0, 4, 2, 2, true)), 0, 8, 0, 2);
     creaseIs(page(bend(0, 4, 2, 2, false)), 0, 8, 0, 2);
@@ -226,6 +255,7 @@ public final class TermsBoundsTest extends Checks {
       creaseIsStuck(page(bend(10, 30, 5, 14, side)), 0, 0);
       creaseIsStuck(page(bend(10, 30, 4, 15, side)), 0, 0);
       creaseIs(page(bend(10, 30, 30, 10, side)), 0, 0, 40, 0);
+      creaseIs(page(bend(50, 51, 2, 1, side)), 0, 0, 52, 0);
       creaseIsStuck(page(bend(10, 30, 31, 10, side)), 0, 0);
       creaseIs(page(bend(10, 30, 10, 30, side)), 0, 0, 0, 0);
       creaseIsStuck(page(bend(10, 30, 10, 31, side)), 0, 0);
@@ -275,6 +305,9 @@ public final class TermsBoundsTest extends Checks {
     creaseIs(page(bend(0, 1, 1, 1, true)), 0, 8, 0, 1);
     creaseIs(page(bend(0, 1, 5, 5, true)), 0, 8, -4, 1);
     creaseIs(page(bend(0, 1, 5, 5, false)), 0, 8, 5, 1);
+    // The greatest root that there is: 2000000.
+    creaseIs(page("width(1000)", bend(1000, 1000, 1000, 1000, false)), 0, 8, 1000, 1000);
+    creaseIs(page("width(1000)", bend(1000, 1000, 1000, 1000, true)), 0, 8, 0, 0);
   }
 
   private static void creasesHalfWay() {
@@ -412,6 +445,13 @@ public final class TermsBoundsTest extends Checks {
     due(page("width(10)", bend(0, 4, 1, 2, true)), "meet(0, 3, 8)", 0);
     TextPage x = page();
     for (int step = 0; step <= 16; step++) due(x, "meet(0, 1, " + step + ")", 0);
+    // Crossing, then stuck by a hinge that is too far.
+    x = page("width(10)", bend(0, 2, 3, 4, false));
+    due(x, "meet(0, 3, 8)", 1);
+    due(x, "hinge(0, false, 10)", 2);
+    due(x, "meet(0, 3, 8)", 0);
+    due(x, "meet(3, 0, 8)", 0);
+    due(x, "meets(0)", -9);
     x = page("width(10)", bend(0, 2, 3, 4, false), "free(0)");
     due(x, "meet(0, 3, 8)", -1);
     due(x, "meets(0)", -9);
@@ -438,6 +478,9 @@ public final class TermsBoundsTest extends Checks {
       due(page(box(4, 4), box(each[0], each[1])), "meet(3, 4, 8)", each[2]);
       due(page(box(4, 4), box(each[0], each[1])), "meet(4, 3, 8)", each[2]);
     }
+    // As near beside one another as places can be: 0, 1 to 1, -1 across the leaf from 0, 0 to 1, 0.
+    for (String call : new String[] {"meet(0, 3, 8)", "meet(3, 0, 8)"}) due(page("width(1)", bend(1, 1, 1, 2, true)), call, 1);
+    for (String call : new String[] {"meet(1, 2, 8)", "meet(2, 1, 8)"}) due(page("width(1)", bend(1, 1, 2, 1, true)), call, 1);
     // On one line, and with one end.
     due(page(box(4, 4), box(4, 6)), "meet(2, 4, 8)", 0);
     due(page(box(4, 4)), "meet(2, 3, 8)", 0);
@@ -617,7 +660,7 @@ public final class TermsBoundsTest extends Checks {
   }
 
   public static void main(String[] args) {
-    widthBounds(); spine(); stepsShutAndFlat(); lyingLeaf(); waysBeyondUpright(); sizeOfLeaves();
+    widthBounds(); spine(); stepsShutAndFlat(); lyingLeaf(); waysBeyondUpright(); endsOfLeaves(); sizeOfLeaves();
     placesFromBeginToEnd(); placesHalfWay(); placesOnLeavesAtOnce();
     numbersOfParts(); earlierPlanes(); sizesOfFlats(); planesOfParts(); boxesAreBends(); secondFlatOfStraps(); sidesOfTheWay();
     circlesThatJustMeet(); stuckWithWhatItHangsOn(); hingesAtOnePlace(); rootsRoundedDown(); creasesHalfWay(); takenOut();
