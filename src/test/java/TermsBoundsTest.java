@@ -92,6 +92,15 @@ public final class TermsBoundsTest extends Checks {
     due(x, "meets(0)", 0);
     due(x, "meets(1)", 0);
     due(x, "meets(2)", 4);
+    // At step 1 the flat goes from B at 5, 1 to 5, -2. The leaf's line goes to its rounded end: with WIDTH 10 that is
+    // 10, 2, and B is on the line; with WIDTH 11 it is 11, 2, and B is above. B is a little above the WAY itself.
+    int[][] widths = {{10, 0}, {11, 1}};
+    for (int[] each : widths) {
+      x = page("width(" + each[0] + ")", bend(5, 5, 2, 3, true));
+      creaseIs(x, 0, 1, 5, -2);
+      due(x, "meet(1, 3, 1)", each[1]);
+      due(x, "meet(3, 1, 1)", each[1]);
+    }
   }
 
   private static void sizeOfLeaves() {
